@@ -20,6 +20,7 @@ public final class ActsTest {
         yearsByHand();
         undo();
         undoForty();
+        sixPersons();
         Check.finish();
     }
 
@@ -89,6 +90,8 @@ public final class ActsTest {
     }
 
     private static void feigns() {
+        Check.due("the last coin", Check.town("sm1;p;p").feigns(0, 0), 6);
+        Check.due("the last two", Check.town("sm2;p;p").leaves(0), 1);
         HangmanMayor t = Check.town("sm6;pc1k8;p");
         Check.due("once", t.feigns(0, 0), 3);
         Check.due("twice", t.feigns(0, 0), 5);
@@ -384,6 +387,32 @@ public final class ActsTest {
         }
         Check.due("none", t.undo(), -1);
         Check.due("status is not undone", t.status(1), 1);
+    }
+
+    /** Nobody's numbers get into another's. */
+    private static void sixPersons() {
+        HangmanMayor t = Check.town("sm99c1k0;ps1c0k0;ps2c1k0;ps3c2k0;ps4c1k0;ps5c1k0;ps6c0k0;tn9;tn8;tn7;tn6;tn5");
+        for (int year = 0; year < 6; year++) {
+            int door = 1 + year;
+            for (int p = 0; p < 6; p++) {
+                for (int i = 0; i <= p % 3; i++) {
+                    t.feigns(p, year % 2);
+                }
+            }
+            t.walks(door);
+            for (int p = 0; p < 6; p++) {
+                Check.due("met", Check.person(t, p, 4), p <= year ? 1 : 0);
+                Check.due("seems " + year % 2, Check.person(t, p, year % 2), (year % 2 == 0 ? new int[] {0, 1, 2, 1, 1, 0}[p] : 0) + 2 * (p % 3 + 1));
+                Check.due("the other trait", Check.person(t, p, 1 - year % 2), year % 2 == 0 ? 0 : new int[] {0, 1, 2, 1, 1, 0}[p]);
+            }
+            Check.due("asks, met in year 3", t.trouble(4, 1), new int[] {5, 4, 3, 2, 3, 2}[year]);
+            t.martinmas(1);
+            t.give(12);
+        }
+        int[] chains = {1, 1, 4, 0, 0, 0};
+        for (int p = 0; p < 6; p++) {
+            Check.due("chains of " + p, Check.person(t, p, 6), chains[p]);
+        }
     }
 
     private static void undoForty() {

@@ -82,14 +82,38 @@ public final class QuestionsTest {
         t.feigns(1, 1);
         t.feigns(1, 1);
         Check.due("three a year with those he did", t.feigning(1), 10);
-        Check.rule(t, "y:m=2?9;y:m");
-        Check.due("once more met", t.feigning(1), 0);
+        t = Check.town("sc1k1v0m50;pc6k6s1;pc0k0s1");
+        t.walks(1);
+        Check.due("never", t.feigning(1), -1);
+        t = Check.town("sc1k1v0m50;pc5k6s1;pc0k0s1");
+        t.walks(1);
+        Check.due("all six", t.feigning(1), 33);
+        t.feigns(1, 0);
+        Check.due("two and three", t.feigning(1), 23);
+        t = Check.town("sc1k1v0m50;pc5k7s1;pc0k0s1");
+        t.walks(1);
+        t.feigns(1, 0);
+        Check.due("no fourth of courage", t.feigning(1), -1);
+        t = Check.town("sc1k0v0m50;pc5s1;pc0s1");
+        t.walks(1);
+        Check.due("courage alone", t.feigning(1), 30);
+        t = Check.town("sc0k1v0m50;pk5s1;pk0s1");
+        t.walks(1);
+        Check.due("kindness alone", t.feigning(1), 3);
+        t = Check.town("p;ps1");
+        t.walks(1);
         t.walks(0);
+        Check.rule(t, "y:m=2?9;y:m");
         Check.due("others as they are", t.feigning(1), -1);
         Check.due("met three times is less", t.feigning(0), -1);
+        t.undo();
+        Check.due("once more met", t.feigning(1), 0);
+        t = Check.town("ps1;ps1");
         Check.rule(t, "y:m");
+        t.walks(1);
+        Check.due("more often met", t.feigning(1), 0);
         for (int i = 0; i < 8; i++) {
-            t.walks(i % 2 == 0 ? 1 : 0);
+            t.walks(i % 2 == 0 ? 0 : 1);
         }
         Check.due("nine at most", t.feigning(1), -1);
     }
@@ -120,6 +144,19 @@ public final class QuestionsTest {
         t.walks(15);
         Check.due("steps", t.count(7), 35);
         tours(t, 31, 25, 0);
+        t.martinmas(1);
+        t.walks(1);
+        tours(t, 1, 1, 0);
+        HangmanMayor near = Check.town("ps1;ps2");
+        near.walks(1);
+        tours(near, 1, 1, 0);
+        near.walks(2);
+        tours(near, 2, 1, 1);
+        tours(near, 3, 1, 1);
+        t.walks(15);
+        t.walks(20);
+        t.walks(10);
+        t.walks(15);
         t.walks(20);
         Check.due("steps there are do not matter", t.tour(1, 0), 20);
         Check.due("nothing changed", t.count(6), 20);
@@ -189,6 +226,37 @@ public final class QuestionsTest {
     private static void show() {
         HangmanMayor t = Check.town("pc9k9v0;pc0k0v9;pc5k0v0;pc0k5v0");
         Check.due("courage against kindness", t.show(), 23);
+        t = Check.town("pc9k9v0;pc0k0v9;pc5k0v0;pc0k5v5;pc0k6v4");
+        t.given(28, 2, false);
+        Check.due("by what fits", t.show(), 23);
+        t = Check.town("pc0;pc1;pc2;pc2;pk9");
+        t.given(12, 2, false);
+        Check.due("nothing fits", t.show(), -1);
+        t = Check.town("pc0k0v0;pc1k0v0;pc0k1v0;pc0k0v1");
+        t.given(3, 0, true);
+        t.given(5, 0, true);
+        t.given(9, 3, false);
+        Check.due("courage 0, kindness 0", t.likings(-1), 10);
+        Check.due("their last", t.likings(9), 9);
+        t.given(9, 0, true);
+        Check.due("with 0 against vanity, too", t.likings(0), 0);
+        t = Check.town("pc9k0v9;pc0k0v0;pc0k1v0;pc8k0v8");
+        t.given(3, 0, false);
+        Check.due("against vanity more than courage", t.likings(-1), 450);
+        t.given(9, 3, true);
+        t.given(6, 2, false);
+        Check.due("no kindness", t.likings(-1), 45);
+        Check.due("the first", t.likings(0), 1);
+        Check.due("the last", t.likings(44), 809);
+        Check.due("the tenth", t.likings(9), 102);
+        t = Check.town("pc0k0v1;pc0k0v0;pc1k0v0;pc0k1v0");
+        t.given(3, 0, true);
+        t.given(6, 1, true);
+        t.given(10, 1, true);
+        Check.due("just one is left", t.likings(-1), 1);
+        Check.due("000", t.likings(0), 0);
+        Check.due("one is enough", t.show(), 1);
+        Check.due("sure, all", t.show(), 1);
         t = Check.town("p;p;p");
         Check.due("alike: the least", t.show(), 1);
         t.given(3, 0, false);
@@ -281,6 +349,11 @@ public final class QuestionsTest {
         Check.due("nobody", t.rests(-1, 0, -1), -1);
         t.leaves(1);
         Check.due("away", t.rests(0, 1, -1), -1);
+        t = Check.town("sc1k0v0;pc9s9;pc3s9;pc9s2;pc2s9");
+        t.walks(2);
+        Check.due("thrice to be ahead of 2", t.rests(1, 3, -1), 1);
+        Check.due("30", t.rests(1, 3, 0), 30);
+        Check.due("3 the other way", t.rests(3, 1, 0), 3);
         t = Check.town("p;p");
         Check.rule(t, "y:1");
         Check.due("feigning is for nothing", t.rests(0, 1, -1), 1);
@@ -315,6 +388,13 @@ public final class QuestionsTest {
     }
 
     private static void oddsCut() {
+        HangmanMayor few = Check.town("sm9c1k0v0;pc5v0;pc6v0;pc9v9;pc7v0;pc8v1");
+        few.leaves(2);
+        Check.due("behind one away", few.odds(3, 10), 90000000);
+        Check.due("further behind", few.odds(4, 10), 100000000 + 656100000);
+        few.leaves(3);
+        Check.due("behind two", few.odds(4, 10), 100000000 + 729000000);
+        Check.due("ahead of them", few.odds(1, 10), 90000000);
         HangmanMayor t = Check.town("sc1k0v0;pc9v0;pc8v0;pc7v0;pc6v0;pc5v0;pc4v9");
         long left = 1000000000L;
         for (int i = 0; i < 5; i++) {
@@ -382,6 +462,13 @@ public final class QuestionsTest {
         Check.due("one of three", t.shares(0, 100), 33);
         Check.due("two of three", t.shares(1, 100), 66);
         Check.due("of 999", t.shares(1, 999), 666);
+        HangmanMayor six = Check.town("p;p;p;p;p;pv9;tn9;tn9");
+        six.martinmas(1);
+        Check.due("all of it", six.shares(5, 999), 999);
+        Check.due("chained", six.most(1), 5);
+        six = Check.town("pv1;pv3;pv2");
+        six.martinmas(1);
+        Check.due("chained", six.most(1), 1);
         Check.due("of 0", t.shares(1, 0), 0);
         Check.due("of 1000", t.shares(1, 1000), -1);
         Check.due("of -1", t.shares(1, -1), -1);

@@ -3,6 +3,7 @@ public final class TextTest {
     public static void main(String[] args) {
         newObject();
         feed();
+        feedAtTheLimit();
         end();
         townFaults();
         townEdges();
@@ -47,6 +48,25 @@ public final class TextTest {
         Check.due("the 240th", t.feed(0, 0, 0, 0, 1), 240);
         Check.due("the 241st", t.feed(1 << 24, 0, 0, 0, 0), -1);
         Check.due("full", t.feed(0, 0, 0, 0, 0), 240);
+    }
+
+    /** Whichever byte of whichever number it is, it counts; and does not, if it is 0. */
+    private static void feedAtTheLimit() {
+        for (int left = 0; left < 20; left++) {
+            for (int bits = 0; bits < 20; bits++) {
+                int[] n = new int[5];
+                for (int i = 0; i < 20; i++) {
+                    n[i / 4] |= i == bits || i % 7 == left % 7 ? 64 + i << 8 * (i % 4) : 0;
+                }
+                int more = 0;
+                for (int i = 0; i < 20; i++) {
+                    more += i == bits || i % 7 == left % 7 ? 1 : 0;
+                }
+                HangmanMayor t = new HangmanMayor();
+                Check.feed(t, "x".repeat(240 - left));
+                Check.due("more " + more + " of " + left, t.feed(n[0], n[1], n[2], n[3], n[4]), more > left ? -1 : 240 - left + more);
+            }
+        }
     }
 
     private static void end() {
@@ -108,6 +128,11 @@ public final class TextTest {
     private static void townEdges() {
         town("pc9k9v9s20;p", -1);
         town("pc10;p", 3);
+        town("pk10;p", 3);
+        town("pv10;p", 3);
+        town("sk10;p;p", 3);
+        town("sv10;p;p", 3);
+        town("sm0c0k0v0;pc0k0v0s0;p;tw0n0", -1);
         town("ps21;p", 3);
         town("ps20;ps9", -1);
         town("sc9k9v9m99;p;p", -1);
@@ -129,6 +154,9 @@ public final class TextTest {
         town("tg10;p;p", 3);
         town("tn10;p;p", 3);
         town("p c 1 ; p k 12", 13);
+        town("p;p" + " ".repeat(237), -1);
+        town("p;p" + " ".repeat(236) + ";", 240);
+        town(" ".repeat(237) + "p;p", -1);
         town("p;pc", 4);
     }
 
@@ -181,6 +209,10 @@ public final class TextTest {
         law("Y:c", 0);
         law("y:c?", 3);
         law("y::c", 2);
+        law("y:1" + "+1".repeat(118), -1);
+        law("y:1" + "+1".repeat(118) + "*", 240);
+        law("y:" + "!c=1&".repeat(47) + "k", 238);
+        law("y:1;".repeat(59) + "y:1", -1);
     }
 
     private static void lawDepth() {

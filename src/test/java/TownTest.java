@@ -148,6 +148,10 @@ public final class TownTest {
         Check.due("a million at least", worth("y:[0-9999*9999+9999*100]/50"), -2);
         Check.due("a million by +", worth("y:[9999*100+9999*100-9999*100]/50"), 2);
         Check.due("a million by -", worth("y:[0-9999*100-9999*100+9999*100]/50"), -2);
+        Check.due("just a million", worth("y:[9999*9999-9999*100]/101"), 0);
+        Check.due("a million itself", worth("y:[9999*9999-9999*100]/100"), 1);
+        Check.due("minus a million itself", worth("y:[0-9999*9999+9999*100]/100"), -1);
+        Check.due("just minus a million", worth("y:[0-9999*9999+9999*100]/101"), 0);
         Check.due("the first that holds", worth("y:c=2?1;y:k=2?2;y:v=3?3;y:4"), 2);
         Check.due("none holds", worth("y:c=2?1;y:k=3?2"), 0);
         Check.due("& binds more", worth("y:c=1|k=9&v=9?5;y:6"), 5);
@@ -160,6 +164,8 @@ public final class TownTest {
         Check.due("=", worth("y:[c+k]=v?5;y:6"), 5);
         Check.due("blanks", worth(" y : c = 1 ? 1 + 2 * 30 ; y : 9 "), 61);
         Check.due("deep", worth("y:!(!([[c]+[k]]=v))?[[[[[[7]]]]]];y:8"), 7);
+        Check.due("a whole tape", worth("y:1" + "+1".repeat(98) + "-1".repeat(20)), 79);
+        Check.due("many clauses", worth("y:c=9?1;".repeat(29) + "y:42"), 42);
         Check.due("many", worth("y:1+1+1+1+1+1+1+1+1+1*2*2*2*2-1-1-1"), 22);
     }
 }
