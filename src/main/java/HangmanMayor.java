@@ -528,6 +528,17 @@ public final class HangmanMayor {
         return value < -most ? -most : (int) value;
     }
 
+    /** Of some places (bits) in a row the one with the highest number, of several the lowest place; NONE of no place. */
+    private static int highest(int[] row, int places) {
+        int best = NONE;
+        for (int i = 0; i < row.length; i++) {
+            if ((places >> i & 1) == 1 && (best == NONE || row[i] > row[best])) {
+                best = i;
+            }
+        }
+        return best;
+    }
+
     /** The bytes fed so far, and the place at which a reader of them stands: never on a blank. */
     private static final class Tape {
         private static final int END = -1;
@@ -1107,7 +1118,6 @@ public final class HangmanMayor {
             return cells[ASKS + trouble];
         }
 
-        /** A trouble that is met asks for more, one that is not for less. */
         void setAsks(int trouble, int much) {
             cells[ASKS + trouble] = much;
         }
@@ -1251,13 +1261,7 @@ public final class HangmanMayor {
         }
 
         int mostAppealing(int persons) {
-            int best = NONE;
-            for (int i = 0; i < town.persons; i++) {
-                if ((persons >> i & 1) == 1 && (best == NONE || appeals[i] > appeals[best])) {
-                    best = i;
-                }
-            }
-            return best;
+            return highest(appeals, persons);
         }
     }
 
@@ -1402,25 +1406,25 @@ public final class HangmanMayor {
             return NONE;
         }
 
-        /** Some live to both sides: the nearer end comes first, so that its way is gone twice. */
+        /** If some live to either side, the nearer end comes first, as its way is gone twice. */
         int tourSteps(State state, int persons) {
             int from = state.cells[State.DOOR];
-            int left = from - lowest(from, persons);
-            int right = highest(from, persons) - from;
+            int left = from - lowestDoor(from, persons);
+            int right = highestDoor(from, persons) - from;
             return left + right == 0 ? 1 : left + right + Math.min(left, right);
         }
 
         int tourEnd(State state, int persons) {
             int from = state.cells[State.DOOR];
-            int low = lowest(from, persons);
-            int high = highest(from, persons);
+            int low = lowestDoor(from, persons);
+            int high = highestDoor(from, persons);
             if (low == high) {
                 return from > 0 ? from - 1 : from + 1;
             }
             return high - from <= from - low ? low : high;
         }
 
-        private int lowest(int from, int persons) {
+        private int lowestDoor(int from, int persons) {
             int low = from;
             for (int i = 0; i < town.persons; i++) {
                 if ((persons >> i & 1) == 1) {
@@ -1430,7 +1434,7 @@ public final class HangmanMayor {
             return low;
         }
 
-        private int highest(int from, int persons) {
+        private int highestDoor(int from, int persons) {
             int high = from;
             for (int i = 0; i < town.persons; i++) {
                 if ((persons >> i & 1) == 1) {
@@ -1580,7 +1584,7 @@ public final class HangmanMayor {
             int left = 0;
             for (int i = 0; i < fitting; i++) {
                 weigh(fits[i]);
-                if ((favoured(persons) == one) == is) {
+                if ((highest(appeals, persons) == one) == is) {
                     fits[left] = fits[i];
                     left++;
                 }
@@ -1597,16 +1601,6 @@ public final class HangmanMayor {
                 int liked = courage * town.trait(i, COURAGE) + kindness * town.trait(i, KINDNESS);
                 appeals[i] = within(liked - vanity * town.trait(i, VANITY), MOST_APPEAL);
             }
-        }
-
-        private int favoured(int persons) {
-            int best = NONE;
-            for (int i = 0; i < town.persons; i++) {
-                if ((persons >> i & 1) == 1 && (best == NONE || appeals[i] > appeals[best])) {
-                    best = i;
-                }
-            }
-            return best;
         }
 
         int bestPair() {
