@@ -6,6 +6,7 @@ final class Check {
     static final int MISSING = Integer.MIN_VALUE;
     private static int checked = 0;
     private static int wrong = 0;
+    private static String test = "";
 
     private Check() {
     }
@@ -14,12 +15,17 @@ final class Check {
         checked++;
         if (got != want) {
             wrong++;
-            System.out.println(what + " answered " + got + ", due is " + want);
+            System.out.println(test + what + " answered " + got + ", due is " + want);
         }
     }
 
     static void due(String what, boolean got, boolean want) {
         due(what, got ? 1 : 0, want ? 1 : 0);
+    }
+
+    /** The test in which all that follows is looked at. */
+    static void within(String name) {
+        test = name.isEmpty() ? "" : name + ": ";
     }
 
     static void finish() {
