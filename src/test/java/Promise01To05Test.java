@@ -138,6 +138,22 @@ public final class Promise01To05Test {
         Check.due("which is there", t.fault(TOWN), 240);
     }
 
+    private static void promise02_bytesOfAllFiveNumbersAreCounted() {
+        for (int one = 0; one < 5; one++) {
+            for (int other = 0; other < 5; other++) {
+                HangmanMayor t = new HangmanMayor();
+                Check.feed(t, " ".repeat(238));
+                int[] n = new int[5];
+                n[one] |= 0x70000000;
+                n[other] |= 0x7070;
+                Check.due("238 and three", t.feed(n[0], n[1], n[2], n[3], n[4]), NONE);
+                Check.due("none came", t.count(3), 238);
+                n[other] &= 0xffff00ff;
+                Check.due("238 and two", t.feed(n[0], n[1], n[2], n[3], n[4]), 240);
+            }
+        }
+    }
+
     private static void promise02_aFullTapeTakesZerosAlone() {
         HangmanMayor t = new HangmanMayor();
         Check.feed(t, "p;p" + " ".repeat(237));
@@ -455,6 +471,13 @@ public final class Promise01To05Test {
         lawFault("y:(1=1)?(1)", 8);
         lawFault("y:1=!1?1", 4);
         lawFault("y:1=(1)?1", 4);
+        lawFault("y:1=2 3", 6);
+        lawFault("y:1=2c", 5);
+        lawFault("y:(1=1)1", 7);
+        lawFault("y:=1?1", 2);
+        lawFault("y:(=1)?1", 3);
+        lawFault("y:1=1&=1?1", 6);
+        lawFault("y:!=1?1", 3);
     }
 
     private static void promise04_blanksInALawStandNotWithinNumbers() {

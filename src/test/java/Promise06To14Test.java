@@ -66,8 +66,10 @@ public final class Promise06To14Test {
         HangmanMayor t = Check.town("pv0;pv9");
         Check.times(3, () -> t.feigns(0, 0));
         Check.times(3, () -> t.feigns(0, 1));
+        t.martinmas(3);
+        Check.times(3, () -> t.feigns(1, 0));
         Check.due("0", Check.person(t, 0, 2), 0);
-        Check.due("9", Check.person(t, 1, 2), 9);
+        Check.due("9, with the chain three times", Check.person(t, 1, 2), 9);
     }
 
     private static void promise07_doorMetAwayChainAtTheirBounds() {
@@ -85,6 +87,37 @@ public final class Promise06To14Test {
         Check.due("chain, once of the first, 119 of the other", Check.person(t, 0, 6), 1);
         Check.due("99 at most", Check.person(t, 1, 6), 99);
         Check.due("not met", Check.person(t, 1, 4), 0);
+    }
+
+    private static void promise07_eachOfSixHasHisOwn() {
+        HangmanMayor t = Check.town("sm99;pc0k0v9s1;pc0k0s2;pc0k0s3;pc0k0s4;pc0k0s5;pc0k0s20;tn9;tn8;tn7;tn6;tn5");
+        for (int p = 0; p < 6; p++) {
+            for (int i = 0; i < p % 4; i++) {
+                t.feigns(p, 0);
+            }
+            for (int i = 0; i < 3 - p % 4; i++) {
+                t.feigns(p, 1);
+            }
+            t.walks(6 - p);
+        }
+        t.leaves(5);
+        int[] met = {2, 3, 3, 3, 3, 0};
+        int[] due = new int[7];
+        for (int p = 0; p < 6; p++) {
+            due[0] = 2 * (p % 4);
+            due[1] = 2 * (3 - p % 4);
+            due[2] = p == 0 ? 9 : 2;
+            due[3] = p == 5 ? 20 : p + 1;
+            due[4] = met[p];
+            due[5] = p == 5 ? 1 : 0;
+            for (int what = 0; what < 7; what++) {
+                Check.due("person " + p + ", " + what, Check.person(t, p, what), due[what]);
+            }
+        }
+        for (int i = 0; i < 5; i++) {
+            Check.due("asks", t.trouble(i, 1), 9 - i);
+        }
+        Check.due("met", t.most(7), 31);
     }
 
     private static void promise07_noSuchOnesAreThrown() {

@@ -129,7 +129,7 @@ public final class Promise15To19Test {
 
     private static void promise16_seedsGoRoundAt64Bits() {
         long[] seeds = {0, 1, -1, Long.MAX_VALUE, Long.MIN_VALUE, 1L << 32, -(1L << 33), 0x123456789abcdefL};
-        String text = "sm50;pc3v5s2;pc4k9s7;pc9k0s13;ps20;pv7s0;tg2n4;tw1g5n9";
+        String text = "sc1k9v3m50;pc3v5s2;pc4k7s7;pc9k5s13;ps20;pv7s0;tg2n4;tw1g5n9";
         for (long seed : seeds) {
             HangmanMayor drawn = Check.town(text);
             HangmanMayor byHand = Check.town(text);
@@ -241,6 +241,24 @@ public final class Promise15To19Test {
     private static boolean drawsTwoTooFarThenDoor0(long seed) {
         Draws draws = new Draws(seed);
         return draws.draw(21) > 2 && draws.draw(21) > 2 && draws.draw(21) == 0;
+    }
+
+    /** Three draws of the door where he is: he goes nowhere, and whoever lives there is not met. */
+    private static void promise16_heDoesNotWalkToWhereHeIs() {
+        long seed = 0;
+        while (!drawsDoor0ThreeTimes(seed)) {
+            seed++;
+        }
+        HangmanMayor t = Check.town("pc9s0v0;pv9s1");
+        t.fate(0);
+        t.years(1, seed);
+        Check.due("nobody was met: by the rest", t.log(0, 1), 1);
+        Check.due("the vainest", t.log(0, 0), 1);
+    }
+
+    private static boolean drawsDoor0ThreeTimes(long seed) {
+        Draws draws = new Draws(seed);
+        return draws.draw(21) == 0 && draws.draw(21) == 0 && draws.draw(21) == 0;
     }
 
     private static void promise16_notAFourthTimeAndNotWhoIsAway() {

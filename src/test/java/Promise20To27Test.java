@@ -59,6 +59,8 @@ public final class Promise20To27Test {
         worth("y:1000*1000/9999-50", 50);
         worth("y:9999*9999/9999-50", 50);
         worth("y:[0-9999]*9999/9999+50", -50);
+        worth("y:1000*1000-999*1000-950", 50);
+        worth("y:0-1000*1000+999*1000+950", -50);
         worth("y:1000*1000+7-1000*1000", 0);
         worth("y:1000*1000-1+7-1000*1000", 0);
         worth("y:1000*1000-8+7-1000*1000", -1);
@@ -103,6 +105,13 @@ public final class Promise20To27Test {
         worth("y:!!1=1?5;y:6", 5);
         worth("y:!!!1=1?5;y:6", 6);
         worth("y:!!!!!!1=1?5;y:6", 5);
+        worth("y:1=1&(1=2)?5;y:6", 6);
+        worth("y:1=1&(1=2|1=2)?5;y:6", 6);
+        worth("y:1=2|(1=1&1=1)?5;y:6", 5);
+        worth("y:(1=2)|(1=2)|(1=1)?5;y:6", 5);
+        worth("y:!1<2?5;y:6", 6);
+        worth("y:!2>1?5;y:6", 6);
+        worth("y:1<2&1=1&2>1?5;y:6", 5);
     }
 
     private static void promise20_theFirstClauseThatHoldsOr0() {
@@ -295,6 +304,10 @@ public final class Promise20To27Test {
         Check.due("three", kind.feigning(0), 3);
         Check.times(2, () -> kind.feigns(0, 1));
         Check.due("one more", kind.feigning(0), 1);
+        HangmanMayor kinder = Check.town("sc0k1v0m99;pk0s1;pk7s1");
+        kinder.walks(1);
+        Check.times(3, () -> kinder.feigns(0, 1));
+        Check.due("a fourth would be needed", kinder.feigning(0), NONE);
     }
 
     private static void promise22_sixInAll() {
@@ -403,6 +416,14 @@ public final class Promise20To27Test {
         tours(t, 16 + 2, 3, 13);
         tours(t, 16 + 8, 2, 8);
         tours(t, 63, 16, 0);
+        HangmanMayor first = Check.town("ps9;ps3;ps1");
+        tours(first, 1, 9, 9);
+        tours(first, 7, 9, 9);
+        first.walks(4);
+        tours(first, 7, 11, 9);
+        first.walks(12);
+        tours(first, 1, 3, 9);
+        tours(first, 7, 11, 1);
     }
 
     private static void promise23_stepsThereAreDoNotMatter() {
@@ -481,6 +502,17 @@ public final class Promise20To27Test {
         Check.due("the last", t.likings(999), 999);
         for (int i : new int[] {1000, -2, Integer.MIN_VALUE, Integer.MAX_VALUE}) {
             Check.due("likings " + i, t.likings(i), NONE);
+        }
+    }
+
+    private static void promise25_allAThousandAgainInAnotherTown() {
+        HangmanMayor t = Check.town("pc0k0v0;pc1k0v0");
+        t.given(3, 1, true);
+        Check.due("900", t.likings(NONE), 900);
+        Check.tell(t, "p;p");
+        Check.due("1000", t.likings(NONE), 1000);
+        for (int i = 0; i < 1000; i += 111) {
+            Check.due("likings " + i, t.likings(i), i);
         }
     }
 
@@ -569,6 +601,25 @@ public final class Promise20To27Test {
         Check.due("two", Check.town("p;pc9").show(), 1);
         HangmanMayor t = Check.town("p;p;pc9k0v0;pc0k9v0;pc9k0v0;pc0k9v0");
         Check.due("23 ahead of 25, 34, 45", t.show(), 23);
+    }
+
+    /** 230 and 770 for 0 and 1, 770 and 230 for 0 and 2: as far apart, the least; 872 and 128 for 1 and 2. */
+    private static void promise26_asFarApartEitherWay() {
+        Check.due("the least", Check.town("pc0k4v1;pc8k1v1;pc0k7v8").show(), 1);
+    }
+
+    /** All 1000 for 0 and 1 (alike by 100 of them), 82 and 918 for 0 and 2, 10 and 990 for 1 and 2. */
+    private static void promise26_alikeTheLowerIsPicked() {
+        Check.due("0 and 2", Check.town("pc5k4v7;pc5k2v7;pc7k2v0").show(), 2);
+    }
+
+    private static void promise26_askedAgain() {
+        HangmanMayor t = Check.town("pc0k4v1;pc8k1v1;pc0k7v8");
+        Check.due("once", t.show(), 1);
+        Check.due("twice", t.show(), 1);
+        Check.tell(t, "pc5k4v7;pc5k2v7;pc7k2v0");
+        Check.due("of another town", t.show(), 2);
+        Check.due("twice", t.show(), 2);
     }
 
     private static void promise26_theLastPair() {

@@ -144,6 +144,8 @@ public final class Promise28To36Test {
         HangmanMayor t = Check.town("sc1k0v0;pc0s1;pc0s1;pc5s1");
         t.walks(1);
         Check.due("6 against 5, the lower", t.rests(0, 1, 0), 30);
+        Check.due("how many", t.rests(1, 0, NONE), 1);
+        Check.due("the other way round", t.rests(1, 0, 0), 3);
         HangmanMayor never = Check.town("sc1k0v0;pc0s1;pc0s1;pc7s1");
         never.walks(1);
         Check.due("6 against 7", never.rests(0, 1, 0), 0);
@@ -219,6 +221,37 @@ public final class Promise28To36Test {
         Check.due("each once: the lower", t.odds(1, 100), 0);
         Check.due("the lower", t.odds(0, 100), ALL_PARTS);
         Check.due("a half of a half", t.odds(1, 50), 250000000);
+    }
+
+    private static void promise30_metOnce() {
+        HangmanMayor lower = Check.town("pc9;pc5");
+        Check.rule(lower, "y:m=1?c;y:0-c");
+        lower.walks(20);
+        lower.walks(0);
+        Check.due("the lower", lower.odds(0, 100), ALL_PARTS);
+        HangmanMayor higher = Check.town("pc5;pc9");
+        Check.rule(higher, "y:m=1?c;y:0-c");
+        Check.due("the higher", higher.odds(1, 100), ALL_PARTS);
+        Check.due("nobody else", higher.odds(0, 100), 0);
+    }
+
+    private static void promise30_whoIsBehindOneAwayIsMetToo() {
+        for (int away = 0; away < 3; away++) {
+            HangmanMayor t = Check.town("sc1k0v0;pc1v0;pc1v0;pc1v0;pc9v0");
+            t.leaves(away);
+            Check.due("all met", t.odds(3, 100), ALL_PARTS);
+            Check.due("by a half", t.odds(3, 50), ALL_PARTS / 2);
+            int next = away == 0 ? 1 : 0;
+            Check.due("the lowest or by the rest", t.odds(next, 50), ALL_PARTS / 4 + ALL_PARTS / 8);
+            Check.due("behind the one away", t.odds(away == 2 ? 1 : 2, 50), ALL_PARTS / 8);
+        }
+    }
+
+    private static void promise30_feigningIsAsItIsNow() {
+        HangmanMayor t = Check.town("sc1k0v0;pc5;pc6;pc0;pc0;pc0;pc0");
+        Check.due("6 against 5", t.odds(1, 100), ALL_PARTS);
+        t.feigns(0, 0);
+        Check.due("6 against 7", t.odds(0, 100), ALL_PARTS);
     }
 
     // ---- 31: first
@@ -310,6 +343,17 @@ public final class Promise28To36Test {
         Check.due("out of bounds all the same", t.shares(1, 1000), NONE);
     }
 
+    private static void promise32_allOfSix() {
+        HangmanMayor t = Check.town("p;p;p;p;p;pv9;tn9;tn9;tn9;tn9;tn9");
+        t.martinmas(2);
+        Check.due("all of it", t.shares(5, 999), 999);
+        t.leaves(5);
+        t.martinmas(2);
+        Check.due("the half", t.shares(5, 999), 499);
+        Check.due("the half", t.shares(0, 999), 499);
+        Check.due("nothing", t.shares(1, 999), 0);
+    }
+
     private static void promise32_cut() {
         HangmanMayor t = Check.town("ps1;pv9s9");
         t.walks(1);
@@ -396,6 +440,18 @@ public final class Promise28To36Test {
         Check.due("met this year, both", t.most(7), 3);
         Check.due("away, both", t.most(8), 3);
         Check.due("favourite all the same", t.most(0), 0);
+    }
+
+    private static void promise33_whoFeignsIsNotMet() {
+        HangmanMayor t = Check.town(SIX);
+        for (int p = 0; p < 6; p++) {
+            t.feigns(p, 0);
+            t.feigns(p, 1);
+        }
+        Check.due("met", t.most(7), 0);
+        t.walks(1);
+        Check.due("all six", t.most(7), 63);
+        Check.due("nobody is away", t.most(8), 0);
     }
 
     private static void promise33_openAtTheEdge() {
