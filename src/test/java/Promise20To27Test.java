@@ -608,6 +608,11 @@ public final class Promise20To27Test {
         Check.due("the least", Check.town("pc0k4v1;pc8k1v1;pc0k7v8").show(), 1);
     }
 
+    /** 580 and 420 for 0 and 1, 420 and 580 for 0 and 2: as far apart, the least; 360 and 640 for 1 and 2. */
+    private static void promise26_asFarApartTheOtherWay() {
+        Check.due("the least", Check.town("pc7k3v6;pc0k9v6;pc6k8v9").show(), 1);
+    }
+
     /** All 1000 for 0 and 1 (alike by 100 of them), 82 and 918 for 0 and 2, 10 and 990 for 1 and 2. */
     private static void promise26_alikeTheLowerIsPicked() {
         Check.due("0 and 2", Check.town("pc5k4v7;pc5k2v7;pc7k2v0").show(), 2);

@@ -341,6 +341,25 @@ public final class Promise28To36Test {
         t.martinmas(5);
         Check.due("nobody was picked", t.shares(1, 999), 0);
         Check.due("out of bounds all the same", t.shares(1, 1000), NONE);
+        Check.due("below 0 all the same", t.shares(1, -1), NONE);
+    }
+
+    private static void promise32_whoseShareIsNothing() {
+        HangmanMayor t = Check.town("pv9;p");
+        t.martinmas(1);
+        Check.due("0 of 999", t.shares(1, 999), 0);
+        Check.due("too large", t.shares(1, 1000), NONE);
+        Check.due("below 0", t.shares(1, -1), NONE);
+    }
+
+    private static void promise32_feigningIsNoChain() {
+        HangmanMayor t = Check.town("pv9;p;p;p;p;p");
+        t.martinmas(1);
+        for (int p = 0; p < 6; p++) {
+            t.feigns(p, 0);
+            t.feigns(p, 1);
+        }
+        Check.due("all of it still", t.shares(0, 999), 999);
     }
 
     private static void promise32_allOfSix() {
